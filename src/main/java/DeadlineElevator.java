@@ -59,7 +59,8 @@ public final class DeadlineElevator {
 
     /** Sets the expiries; refused when a request waits or one of them is not 0 .. 10000. */
     public boolean expire(int reading, int writing) {
-        if (requests.count > 0 || !isWithin(reading, LONGEST_EXPIRY) || !isWithin(writing, LONGEST_EXPIRY)) {
+        boolean inRange = isWithin(reading, LONGEST_EXPIRY) && isWithin(writing, LONGEST_EXPIRY);
+        if (requests.count > 0 || !inRange) {
             return false;
         }
         readingExpiry = reading;

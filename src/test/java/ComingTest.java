@@ -86,7 +86,7 @@ public final class ComingTest {
     private static void promise2FullOfParts() {
         DeadlineElevator x = new DeadlineElevator();
         for (int i = 0; i < 200; i++) {
-            check.due("read no. " + i, x.read(i % 64, 1), i);
+            check.due("read no. " + i, x.read(i % 57, 8), i);
             x.dispatch();
         }
         check.due("read after 200 parts", x.read(0, 1), FULL);

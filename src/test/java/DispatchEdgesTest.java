@@ -11,6 +11,8 @@ public final class DispatchEdgesTest {
         noneWaitsInANewObject();
         noneWaitsWhenAllAreDone();
         fromOneToFourParts();
+        onlyItsOwnParts();
+        noPartIsDoneTwice();
         allOfTwentyFour();
         for (int way = 0; way <= 1; way++) {
             theCountGoesFromOneToFour(way);
@@ -105,6 +107,45 @@ public final class DispatchEdgesTest {
                 check.due("dispatch", x.dispatch(), 0);
             }
         }
+    }
+
+    /** "all its parts are DONE": not those of another request, though they lie between by number. */
+    private static void onlyItsOwnParts() {
+        DeadlineElevator x = new DeadlineElevator();
+        x.write(40, 1, 400);
+        x.write(10, 1, 100);
+        x.write(41, 1, 410);
+        x.write(11, 1, 110);
+        next(x, 2, 1, 6);
+        int[] states = {1, 2, 1, 2};
+        for (int part = 0; part < states.length; part++) {
+            check.due("state(" + part + ")", x.state(part), states[part]);
+        }
+        check.due("sector(40)", x.sector(40), 0);
+        check.due("sector(41)", x.sector(41), 0);
+    }
+
+    /** "all its parts are DONE": once, and not again with a request between them by number. */
+    private static void noPartIsDoneTwice() {
+        DeadlineElevator x = new DeadlineElevator();
+        for (int i = 0; i < 3; i++) {
+            x.write(2 * i, 1, i);
+        }
+        x.write(10, 1, 100);
+        x.write(20, 1, 200);
+        x.write(11, 1, 110);
+        next(x, 1, 0, 6);
+        next(x, 1, 1, 7);
+        next(x, 1, 2, 8);
+        next(x, 2, 3, 9);
+        check.due("sector(11)", x.sector(11), 110);
+        x.write(11, 1, 7);
+        x.read(62, 1);
+        next(x, 1, 7, 11);
+        next(x, 1, 6, 6);
+        check.due("sector(11)", x.sector(11), 7);
+        next(x, 1, 4, 7);
+        check.due("sector(11) stays", x.sector(11), 7);
     }
 
     /** "The request picked waits no longer": the queue is emptied one by one. */
